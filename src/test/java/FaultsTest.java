@@ -11,6 +11,7 @@ public final class FaultsTest {
         names();
         bounds();
         many();
+        allNames();
         lacks();
         Due.end();
     }
@@ -119,6 +120,11 @@ public final class FaultsTest {
         for (String word : "stands moves to push bed level much weighs creep new of reads high rains q".split(" ")) {
             sound(SOUND.replace("peg p", "peg " + word), 1);
         }
+        sound(SOUND.replace("peg p", "peg zebra"), 1);
+        sound(SOUND.replace("peg p", "peg ab").replace("story s", "story r"), 1);
+        sound(SOUND.replace("peg p", "peg aa").replace("story s", "story a"), 1);
+        sound(SOUND.replace("peg p", "peg abcdefgh").replace("story s", "story abcdefgi"), 1);
+        sound(SOUND.replace("peg p", "peg bbcdefgh").replace("story s", "story abcdefgh"), 1);
         soundBehind("knower k of p reads 1");
         faultBehind("peg p", 3, 4);
         faultBehind("peg s", 3, 4);
@@ -198,6 +204,17 @@ public final class FaultsTest {
         manyOf("story N weighs 1 creep 1", "story", 5);
         manyOf("village N high 1 people 1 needs 1", "village", 4);
         manyOf("knower N of p reads 1", "knower", 4);
+    }
+
+    /** As many NAMES as there can be: the last of them is still looked up. */
+    private static void allNames() {
+        String full = "lake stands 5 moves 1 to 9;" + lines("peg N push 1 bed 1", 0, 5) + ";"
+            + lines("story N weighs 1 creep 5", 5, 6) + ";" + lines("village N high 1 people 1 needs 1", 11, 4) + ";"
+            + lines("knower N of e reads 1", 15, 3) + ";knower ";
+        sound(full + "z of e reads 1", 6);
+        for (char c = 'a'; c <= 'r'; c++) {
+            fault(full + c, 3, full.length());
+        }
     }
 
     private static void lacks() {

@@ -94,7 +94,7 @@ public final class PromisesTest {
         Due.is("feed of lake and a byte 255", y.feed(0x6c616b65, 0x20ff2020, 0, 0, 0), 20);
         y.hill(20);
         Due.is("the highest byte comes first", y.where(), 5);
-        Due.is("a 6th number's bytes", y.feed(0x6c616b65, 0x20737461, 0x6e647320, 0x35206d6f, 0x76657320), 20);
+        Due.is("feed of «lake stands 5 moves »", y.feed(0x6c616b65, 0x20737461, 0x6e647320, 0x35206d6f, 0x76657320), 20);
         y.feed(0x3020746f, 0x20392020, 0, 0, 0);
         y.hill(40);
         Due.is("lake stands 5 moves 0: fault()", y.fault(), 4);
@@ -403,6 +403,8 @@ public final class PromisesTest {
         first.plan(58, 999);
         first.plan(59, 0);
         Due.answered("DAY 59", first, first.lettings(), 2);
+        HillTap second = Due.told("lake stands 0 moves 10 to 100;from 0 level 10;from 1 level 5;" + PEG + "story a weighs 1 creep 50");
+        Due.answered("DAY 1 is below DAY 0, though not below stands", second, second.lettings(), 1);
     }
 
     private static void promise19() {
@@ -436,6 +438,12 @@ public final class PromisesTest {
         behind.plan(4, 0);
         Due.answered("GONE on DAY 9", behind, behind.gone(0), 9);
         Due.answered("LETTING on DAY 4", behind, behind.tap(0), 0);
+        HillTap then = Due.told("lake stands 500 moves 5 to 500;from 1 level 0;peg p push 700 bed 200;peg a push 0 bed 0;"
+            + "peg b push 0 bed 0;peg c push 0 bed 0;peg d push 0 bed 0;story w weighs 1 weak 99 after 500;story v weighs 1 weak 99 after 900");
+        // SPEEDS together 295 on DAY 0 and 106 + 4 * 46 on DAY 6
+        Due.answered("GONE on the fifth DAY on", then, then.gone(0), 6);
+        Due.answered("slower together, but GONE", then, then.tap(0), 0);
+        Due.answered("slower together, and not GONE", then, then.tap(1), 1);
         behind.undo();
         behind.undo();
         Due.answered("LETTING on DAY 3, slower on DAY 8, GONE behind it", behind, behind.tap(0), 1);
@@ -504,6 +512,12 @@ public final class PromisesTest {
         Due.refused("PEG 1", x, x.span(0, 1, 0, 0, true), 1);
         Due.refused("STORY -1", x, x.span(-1, 0, 0, 0, true), 1);
         Due.answered("DAY 58, off 20", x, x.span(0, 0, 58, 20, true), 59);
+        HillTap steep = Due.told("lake stands 0 moves 50 to 500;from 0 level 500;peg p push 0 bed 0;story a weighs 1 creep 99");
+        // SPEEDS 4 and 9: 6 and 7 are on the flattest line, 2 and 11 on the steepest
+        Due.answered("both towards each other", steep, steep.span(0, 0, 0, 2, true), 7);
+        Due.answered("both away from each other", steep, steep.span(0, 0, 0, 2, false), 1);
+        // SPEEDS 9 and 14: 12 and 11 are on no line, 12 and 14 on the flattest
+        Due.answered("the first one more", steep, steep.span(0, 0, 1, 3, true), 8);
     }
 
     /** Rises by 10 a DAY; by the first STORY GONE on DAY 21 at LEVEL 220, and at no LEVEL below 213. */
@@ -541,6 +555,9 @@ public final class PromisesTest {
     }
 
     private static void promise25() {
+        HillTap rain = Due.told("lake stands 10 moves 10 to 10;peg p push 990 bed 0;rain 7 much 1;story r weighs 1 rains 10");
+        Due.answered("safe: the rain falls by each GOAL", rain, rain.safe(0), -2);
+        Due.answered("last: the rain falls all the same", rain, rain.last(0), -2);
         HillTap x = Due.told(RISES);
         // 99 times 212 by 100 is 209, times 213 is 210
         Due.answered("safe", x, x.safe(0), 212);
