@@ -5,8 +5,14 @@ import java.util.NoSuchElementException;
 final class Due {
     private static int asked = 0;
     private static int wrong = 0;
+    /** The sentence of the document whose test is running, told ahead of an answer that isn't due. */
+    private static String sentence = "";
 
     private Due() {
+    }
+
+    static void sentence(String words) {
+        sentence = "[" + words + "] ";
     }
 
     static void is(String what, long got, long want) {
@@ -14,9 +20,17 @@ final class Due {
         if (got != want) {
             wrong++;
             if (wrong <= 50) {
-                System.out.println(what + " answered " + got + ", due is " + want);
+                System.out.println(sentence + what + " answered " + got + ", due is " + want);
             }
         }
+    }
+
+    static void yes(String what, boolean so) {
+        is(what, so ? 1 : 0, 1);
+    }
+
+    static void no(String what, boolean so) {
+        is(what, so ? 1 : 0, 0);
     }
 
     static void refused(String what, HillTap x, long got, int trouble) {
@@ -60,6 +74,37 @@ final class Due {
     static int hill(HillTap x, String text) {
         feed(x, text);
         return x.hill(text.length());
+    }
+
+    /** A text with a FAULT, told to a new object: there is no HILL then. */
+    static void fault(String text, int fault, int place) {
+        HillTap x = new HillTap();
+        refused("hill of «" + text + "»", x, hill(x, text), 4);
+        is("fault() of «" + text + "»", x.fault(), fault);
+        is("where() of «" + text + "»", x.where(), place);
+        is("size(3) of «" + text + "»", x.size(3), 0);
+    }
+
+    /** A text without one. */
+    static HillTap sound(String text, int stories) {
+        HillTap x = new HillTap();
+        answered("hill of «" + text + "»", x, hill(x, text), stories);
+        is("fault() of «" + text + "»", x.fault(), 0);
+        is("where() of «" + text + "»", x.where(), -1);
+        return x;
+    }
+
+    /** LEVELS, or what peg() answers, of the DAYS from one on. */
+    static void levels(String what, HillTap x, int from, int... due) {
+        for (int i = 0; i < due.length; i++) {
+            answered(what + ", LEVEL of DAY " + (from + i), x, x.level(from + i), due[i]);
+        }
+    }
+
+    static void pegs(String what, HillTap x, int story, int peg, int kind, int from, int... due) {
+        for (int i = 0; i < due.length; i++) {
+            answered(what + ", peg(" + story + ", " + peg + ", " + (from + i) + ", " + kind + ")", x, x.peg(story, peg, from + i, kind), due[i]);
+        }
     }
 
     static HillTap told(String text) {
